@@ -185,7 +185,7 @@ public final class ShornHill {
         int ripe = land.ripeCells(weeks);
         int most = 0;
         int best = NONE;
-        for (int c = 0; c < MOST_CELLS; c++) {
+        for (int c = 0; c < land.cells(); c++) {
             int shorn = isIn(ripe, c) ? mostShorn(c, ripe) : 0;
             if (shorn > most) {
                 most = shorn;
