@@ -41,6 +41,14 @@ final class Checks {
         }
     }
 
+    /** A sheet gets a new row of a lane, of these numbers. */
+    static void row(ShornHill x, int sheet, int lane, int... values) {
+        x.sheet(sheet, lane, values.length);
+        for (int i = 0; i < values.length; i++) {
+            x.put(sheet, i, values[i]);
+        }
+    }
+
     /** A sheet of bytes gets strokes, told as digits. */
     static void strokes(ShornHill x, int sheet, String digits) {
         x.sheet(sheet, 0, digits.length());
