@@ -50,6 +50,8 @@ public final class RefusalTest {
         stood.bodiesRefuse();
         stood.manyRefuses();
         stood.whatIsAskedChangesNothing();
+        stood.thereAndBackIsNoChange();
+        stood.bodiesLeaveAllButTrace();
         new RefusalTest(ShornHill::new).noHill();
         new RefusalTest(RefusalTest::filled).fullOfReadings();
         new RefusalTest(() -> Checks.told("h2411;#g#g;#g#g")).aThornIsSupposed();
@@ -448,6 +450,38 @@ public final class RefusalTest {
     /** A hollow tells (3, 2, 1, 1), and grass is trod (4). */
     private static int x28() {
         return (((3 * 31 + 2) * 31 + 1) * 31 + 1) * 31 + 4;
+    }
+
+    /** What a call changes is all that it changes: put back, all is as it was. */
+    private void thereAndBackIsNoChange() {
+        row("4: there and back", 9, KEPT, x -> then(x.goats(0, 9), x.goats(0, 1)));
+        row("4: what it was already", 9, KEPT, x -> x.goats(2, 9));
+        row("5: there and back", 3, KEPT, x -> then(x.pace(3), x.pace(2)));
+        row("6: there and back", 9, KEPT, x -> then(x.breadth(9), x.breadth(3)));
+        row("14: one told, one taken back", 3, KEPT, x -> then(x.reading(8, 9, 0), x.back(1)));
+        row("20: a row for nothing, and lost", 1, 0, x -> then(x.sheet(2, 1, 60), x.lose(2)));
+        row("20: an empty row for an empty one", 1, 0, x -> x.sheet(1, 0, 0));
+        row("22: there and back", 1, 0, x -> then(x.put(0, 3, 5), x.put(0, 3, -300)));
+        row("22: cut to what it was", 1, 0, x -> x.put(3, 0, 'h' - 256));
+        row("24: onto itself", 17, 0, x -> x.copy(3, 0, 3, 0, 17));
+    }
+
+    private void bodiesLeaveAllButTrace() {
+        int[] tells = {1, 100, 118};
+        int[] trods = {0, 1, 40};
+        for (int c = 0; c < 3; c++) {
+            ShornHill x = make.object();
+            x.sheet(0, 0, -1);
+            Checks.due("25: cell " + c, x.tell(c), tells[c]);
+            Checks.due("26: cell " + c, x.trod(c), trods[c]);
+            Checks.due("29: bodies have no fault", x.fault(), 4);
+            Sight.sameButTrace("25: cell " + c, x, untouched);
+        }
+    }
+
+    private static long then(long first, long second) {
+        Checks.due("the first of two calls is not refused", first >= 0 ? 1 : 0, 1);
+        return second;
     }
 
     private void noHill() {

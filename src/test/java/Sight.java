@@ -57,7 +57,17 @@ final class Sight {
 
     /** Looks at x: it is due to be as it was seen elsewhere. */
     static void same(String label, ShornHill x, long[] want) {
+        same(label, of(x), want);
+    }
+
+    /** As same, but for the trace, which is looked at first. */
+    static void sameButTrace(String label, ShornHill x, long[] want) {
         long[] got = of(x);
+        got[0] = want[0];
+        same(label, got, want);
+    }
+
+    private static void same(String label, long[] got, long[] want) {
         int unlike = Arrays.mismatch(got, want);
         if (unlike >= 0) {
             Checks.due(label + ": what is seen at " + unlike, at(got, unlike), at(want, unlike));
